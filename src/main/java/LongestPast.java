@@ -153,14 +153,15 @@ public final class LongestPast {
 
     public int best() {
         int best = 0;
-        int least = Integer.MAX_VALUE;
+        int least = 0;
         for (int order = 0; order <= MOST_ORDER; order++) {
             trial.past.becomes(now.past);
             trial.past.order = order;
             trial.repacks();
-            if (trial.range.endedSize() < least) {
+            int size = trial.range.endedSize();
+            if (order == 0 || size < least) {
                 best = order;
-                least = trial.range.endedSize();
+                least = size;
             }
         }
         return best;
@@ -280,9 +281,10 @@ public final class LongestPast {
             if (many >= 0 && many < size) size = many;
         }
 
-        void becomes(Row other) {
+        void copies(Row other) {
+            int many = other.size;
             size = 0;
-            for (int i = 0; i < other.size; i++) puts(other.at(i));
+            for (int i = 0; i < many; i++) puts(other.at(i));
         }
     }
 
@@ -304,7 +306,7 @@ public final class LongestPast {
 
         void becomes(Past other) {
             setsOut(other.order, other.limit, other.room, other.tail);
-            signs.becomes(other.signs);
+            signs.copies(other.signs);
         }
 
         /** Place of THE CONTEXT of so many SIGNS ahead of a place of TEXT SO FAR. */
@@ -358,24 +360,19 @@ public final class LongestPast {
 
         int at(int place, int sign) {
             int i = SIGNS * place + sign;
-            return place >= 0 && isSign(sign) && i < counts.length ? counts[i] : 0;
+            return i >= 0 && i < counts.length ? counts[i] : 0;
         }
 
-        void learns(int place, int sign, int limit) {
+        void raises(int place, int sign, int limit) {
             int first = SIGNS * place;
-            if (place < 0 || !isSign(sign) || first + SIGNS > counts.length) return;
+            if (first < 0 || first > counts.length - SIGNS || sign < 0 || sign >= SIGNS) return;
+            int sum = 0;
+            for (int i = first; i < first + SIGNS; i++) sum += counts[i];
             // Halving leaves LIMIT's half, 1 at least: a CONTEXT that is THERE stays so till all is FORGOTTEN.
-            if (!isThere(place)) there++;
+            if (sum == 0) there++;
             counts[first + sign]++;
             if (counts[first + sign] != limit) return;
             for (int i = first; i < first + SIGNS; i++) counts[i] /= 2;
-        }
-
-        private boolean isThere(int place) {
-            for (int sign = 0; sign < SIGNS; sign++) {
-                if (at(place, sign) > 0) return true;
-            }
-            return false;
         }
     }
 
@@ -457,12 +454,10 @@ public final class LongestPast {
             lower = 1;
         }
 
-        @Override
         int chooses(Stage stage) {
             return stage.choiceFor(wanted);
         }
 
-        @Override
         void takes(int begin, int width, int total) {
             escaped++;
             upper *= width;
@@ -503,12 +498,12 @@ public final class LongestPast {
             isWhole();
             reading = true;
             value = 0;
-            nextRead = 0;
-            for (int k = 0; k < VALUE_BITS; k++) value = 2 * value + readsBit();
+            for (int k = 0; k < VALUE_BITS; k++) value = 2 * value + bits.at(k);
+            nextRead = VALUE_BITS;
         }
 
         void endsLike(Range other) {
-            bits.becomes(other.bits);
+            bits.copies(other.bits);
             reading = false;
             owed = other.owed + 1;
             writesBit(other.low < QUARTER ? 0 : 1);
@@ -522,7 +517,6 @@ public final class LongestPast {
             wanted = sign;
         }
 
-        @Override
         int chooses(Stage stage) {
             if (!reading) return stage.choiceFor(wanted);
             int wide = high - low + 1;
@@ -530,7 +524,6 @@ public final class LongestPast {
             return stage.choiceAt(v);
         }
 
-        @Override
         void takes(int begin, int width, int total) {
             if (total <= 0) return;
             int wide = high - low + 1;
@@ -561,13 +554,9 @@ public final class LongestPast {
         private void doubles(int less) {
             low = 2 * (low - less);
             high = 2 * (high - less) + 1;
-            if (reading) value = 2 * (value - less) + readsBit();
-        }
-
-        private int readsBit() {
-            int bit = bits.at(nextRead);
+            if (!reading) return;
+            value = 2 * (value - less) + bits.at(nextRead);
             nextRead++;
-            return bit;
         }
 
         private void writesBit(int bit) {
@@ -590,15 +579,12 @@ public final class LongestPast {
 
         void startsLike(Past other) {
             past.setsOut(other.order, other.limit, other.room, other.tail);
-            repacks();
+            startsAnew();
         }
 
         /** All of TEXT SO FAR is PACKED from nothing. */
         void repacks() {
-            packed = 0;
-            forgotten = 0;
-            contexts.empties();
-            range.startsWriting();
+            startsAnew();
             int many = past.signs.size;
             for (int i = 0; i < many; i++) packsNext();
         }
@@ -644,6 +630,13 @@ public final class LongestPast {
             return -1;
         }
 
+        private void startsAnew() {
+            packed = 0;
+            forgotten = 0;
+            contexts.empties();
+            range.startsWriting();
+        }
+
         private int longest() {
             return Math.min(past.order, packed);
         }
@@ -651,7 +644,7 @@ public final class LongestPast {
         private void learns(int sign, int found) {
             int most = longest();
             for (int j = Math.max(found, 0); j <= most; j++) {
-                contexts.learns(past.contextAhead(packed, j), sign, past.limit);
+                contexts.raises(past.contextAhead(packed, j), sign, past.limit);
             }
             packed++;
             if (contexts.there > past.room) forgets();
@@ -664,7 +657,7 @@ public final class LongestPast {
             for (int i = first; i < packed; i++) {
                 int most = Math.min(past.order, i - first);
                 for (int j = 0; j <= most; j++) {
-                    contexts.learns(past.contextAhead(i, j), past.signs.at(i), past.limit);
+                    contexts.raises(past.contextAhead(i, j), past.signs.at(i), past.limit);
                 }
             }
         }
