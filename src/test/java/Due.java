@@ -17,6 +17,43 @@ final class Due {
         due(what, holds ? 1 : 0, 1);
     }
 
+    static void text(String what, String got, String want) {
+        asked++;
+        if (got.equals(want)) return;
+        wrong++;
+        if (wrong <= 50) System.out.println(what + " is " + got + ", due is " + want);
+    }
+
+    /** A call behind a run is refused by a number, and nothing that can be asked is another one behind it. */
+    static void refused(Run run, int want, String name, int... with) {
+        Run.Call call = new Run.Call(name, with);
+        due(call + " refused", run.answers(call), want);
+        changesNothing(run, call);
+    }
+
+    static void changesNothing(Run run, Run.Call call) {
+        String[] was = run.seen().split("\n");
+        String[] is = run.then(call).seen().split("\n");
+        int i = 0;
+        while (i < was.length && i < is.length && was[i].equals(is[i])) i++;
+        text("behind " + call, i < is.length ? is[i] : "", i < was.length ? was[i] : "");
+    }
+
+    /** CHANCE of a SIGN at the end of a run. */
+    static void chance(Run run, int sign, int upper, int lower) {
+        due("upper of " + sign + " behind " + run.text(), run.answers("chance", sign, 0), upper);
+        due("lower of " + sign + " behind " + run.text(), run.answers("chance", sign, 1), lower);
+    }
+
+    /** THE BITS, OWED, LOW and HIGH at the end of a run. */
+    static void written(Run run, String bits, int owed, int low, int high) {
+        text("bits of " + run.text(), run.bits(), bits);
+        due("how many bits of " + run.text(), run.told(3), bits.length());
+        due("OWED of " + run.text(), run.told(4), owed);
+        due("LOW of " + run.text(), run.told(5), low);
+        due("HIGH of " + run.text(), run.told(6), high);
+    }
+
     /** Types each letter of a text; nothing is checked. */
     static void types(LongestPast x, String text) {
         for (int i = 0; i < text.length(); i++) x.type(text.charAt(i));

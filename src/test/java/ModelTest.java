@@ -1,8 +1,14 @@
+import java.util.ArrayList;
+import java.util.Collections;
+import java.util.List;
 import java.util.Random;
 
 /** Random runs of up to 512 calls, each call asked of the class and of the Model; the seeds are fixed. */
 public final class ModelTest {
     private static final int[] ODD = {-1, 4, 5, 60, 61, 200, 256, 1000, -10, Integer.MAX_VALUE, Integer.MIN_VALUE};
+
+    private record Question(Run.Call call, int want) {
+    }
 
     private final Random random;
     private final LongestPast x = new LongestPast();
@@ -21,9 +27,12 @@ public final class ModelTest {
         Due.ends("ModelTest");
     }
 
+    /** Short runs and long ones; what is left of the 512 calls then asks about all that is so. */
     private void run(String name) {
-        for (int call = 0; call < 512; ) call += step(name + ", call " + call);
-        everything(name + ", at its end");
+        int steps = 100 + random.nextInt(360);
+        int call = 0;
+        while (call < steps) call += step(name + ", call " + call);
+        everything(name + ", at its end", Run.MOST_CALLS - call);
     }
 
     private int num(int most) {
@@ -128,24 +137,31 @@ public final class ModelTest {
         return 1;
     }
 
-    private void everything(String at) {
+    private void everything(String at, int left) {
         Model.Derived d = m.now();
-        Due.must(at + " TEXT SO FAR", Due.textOf(x).equals(m.state.text()));
-        Due.must(at + " THE BITS", Due.bitsOf(x).equals(d.bits.toString()));
-        for (int i = 0; i <= 12; i++) Due.due(at + " told(" + i + ")", x.told(i), m.told(i));
-        for (int j = 0; j <= m.state.order(); j++) counts(at, d, j);
+        List<Question> questions = new ArrayList<>();
+        for (int i = 0; i <= 12; i++) questions.add(new Question(new Run.Call("told", i), m.told(i)));
+        for (int i = 0; i < d.text.length(); i++) {
+            questions.add(new Question(new Run.Call("sign", i), d.text.charAt(i) - 'a'));
+        }
+        for (int i = 0; i < d.bits.length(); i++) {
+            questions.add(new Question(new Run.Call("bit", i), d.bits.charAt(i) - '0'));
+        }
+        for (int j = 0; j <= m.state.order(); j++) counts(questions, d, j);
+        Collections.shuffle(questions, random);
+        for (Question q : questions.subList(0, Math.min(left, questions.size()))) {
+            Due.due(at + " " + q.call, q.call.on(x), q.want);
+        }
     }
 
-    private void counts(String at, Model.Derived d, int j) {
+    private static void counts(List<Question> questions, Model.Derived d, int j) {
         for (int code = 0; code < 1 << 2 * j; code++) {
             String context = "";
             for (int i = j - 1; i >= 0; i--) context += (char) ('a' + (code >> 2 * i & 3));
             int a = j > 0 ? context.charAt(0) - 'a' : 0;
             int b = j > 1 ? context.charAt(1) - 'a' : 0;
             int c = j > 2 ? context.charAt(2) - 'a' : 0;
-            for (int s = 0; s < 4; s++) {
-                Due.due(at + " count of " + s + " in '" + context + "'", x.count(j, a, b, c, s), d.of(context)[s]);
-            }
+            for (int s = 0; s < 4; s++) questions.add(new Question(new Run.Call("count", j, a, b, c, s), d.of(context)[s]));
         }
     }
 }
